@@ -112,7 +112,7 @@ public final class SilentCouncil {
 
     public int about(int matter, int what) {
         Matters matters = now.matters;
-        if (matter < 0 || matter >= matters.count || matter >= MATTERS) {
+        if (matter < 0 || matter >= matters.count) {
             return UNKNOWN;
         }
         switch (what) {
@@ -135,7 +135,7 @@ public final class SilentCouncil {
 
     public int least(int i) {
         Matters matters = now.matters;
-        if (i < -1 || i >= matters.count || i >= MATTERS) {
+        if (i < -1 || i >= matters.count) {
             return NONE;
         }
         agenda.prepare(matters);
@@ -196,14 +196,10 @@ public final class SilentCouncil {
         if (i == -1) {
             return Book.ways(book, 0, BEYOND_ALL);
         }
-        if (i < 0 || k < 0 || k >= book.length || k >= BOOK_SIGNS) {
+        if (i < 0 || k < 0 || k >= book.length || Book.ways(book, 0, i) <= i) {
             return NONE;
         }
-        if (Book.ways(book, 0, i) <= i) {
-            return NONE;
-        }
-        int who = book.filling[k];
-        return who == NOBODY ? '.' : 'a' + who;
+        return book.sign(k);
     }
 
     public int lie() {
@@ -560,7 +556,7 @@ public final class SilentCouncil {
         }
 
         boolean has(int one) {
-            for (int matter = 0; matter < count && matter < MATTERS; matter++) {
+            for (int matter = 0; matter < count; matter++) {
                 if (by[matter] == one) {
                     return true;
                 }
@@ -570,7 +566,7 @@ public final class SilentCouncil {
 
         int allMinutes() {
             int sum = 0;
-            for (int matter = 0; matter < count && matter < MATTERS; matter++) {
+            for (int matter = 0; matter < count; matter++) {
                 sum += minutes[matter];
             }
             return sum;
@@ -606,13 +602,24 @@ public final class SilentCouncil {
         private final boolean[] canEnd = new boolean[MATTER_SETS];
         private int full = 0;
 
-        /** What a matter's speaker must have at minute 0, for each set said before it. */
+        /** What a matter's speaker must have at minute 0 to need no pause, for each set said before. */
         void prepare(Matters matters) {
             full = (1 << matters.count) - 1;
-            for (int said = 0; said <= full; said++) {
-                for (int matter = 0; matter < matters.count; matter++) {
-                    needs[said * MATTERS + matter] = need(matters, said, matter);
+            System.arraycopy(matters.minutes, 0, needs, 0, MATTERS);
+            for (int last = 0; last < matters.count; last++) {
+                for (int others = 0; others < 1 << last; others++) {
+                    needBehind(matters, others, last);
                 }
+            }
+        }
+
+        /** What its speaker spoke before is paid, what another one spoke is saved. */
+        private void needBehind(Matters matters, int others, int last) {
+            int said = others | 1 << last;
+            int minutes = matters.minutes[last];
+            for (int matter = 0; matter < matters.count; matter++) {
+                int more = matters.by[last] == matters.by[matter] ? minutes : -minutes;
+                needs[said * MATTERS + matter] = needs[others * MATTERS + matter] + more;
             }
         }
 
@@ -718,17 +725,6 @@ public final class SilentCouncil {
         private int lack(Matters matters, int said, int matter) {
             return needs[said * MATTERS + matter] - share[matters.by[matter]];
         }
-
-        /** Its own minutes; one that the speaker spoke before is paid, each other one is saved. */
-        private int need(Matters matters, int said, int matter) {
-            if (said == 0) {
-                return matters.minutes[matter];
-            }
-            int first = Integer.numberOfTrailingZeros(said);
-            int minutes = matters.minutes[first];
-            boolean own = matters.by[first] == matters.by[matter];
-            return needs[(said & said - 1) * MATTERS + matter] + (own ? minutes : -minutes);
-        }
     }
 
     /** Who owes whom, and how it is cleared. */
@@ -738,10 +734,13 @@ public final class SilentCouncil {
 
         /** A group whose nets are 0 together is cleared by one gift fewer than it has ones. */
         int fewestGifts(int[][] lent) {
-            for (int set = 1; set < ONE_SETS; set++) {
-                int first = Integer.numberOfTrailingZeros(set);
-                sums[set] = sums[set & set - 1] + netOf(lent, first);
-                groups[set] = mostGroups(set) + (sums[set] == 0 ? 1 : 0);
+            for (int last = 0; last < ONES; last++) {
+                int net = netOf(lent, last);
+                for (int others = 0; others < 1 << last; others++) {
+                    int set = others | 1 << last;
+                    sums[set] = sums[others] + net;
+                    groups[set] = mostGroups(set) + (sums[set] == 0 ? 1 : 0);
+                }
             }
             return ONES - groups[ONE_SETS - 1];
         }
@@ -759,16 +758,19 @@ public final class SilentCouncil {
 
     /** A book of minutes whose holes are filled. */
     private static final class Book {
+        private static final int HOLE = 7;
+
         final int[] filling = new int[BOOK_SIGNS];
         int length = 0;
-        private final int[] signs = new int[BOOK_SIGNS];
+        private final int[] lines = new int[BOOK_SIGNS];
         private final int[] saved = new int[ONES];
         private final int[] spoke = new int[ONES];
 
+        /** The pad has no fault as a book. */
         void open(Pad pad, int[] from) {
             length = Math.min(pad.count, BOOK_SIGNS);
             for (int minute = 0; minute < length; minute++) {
-                signs[minute] = pad.sign(minute);
+                lines[minute] = line(pad.sign(minute));
             }
             System.arraycopy(from, 0, saved, 0, ONES);
             for (int one = 0; one < ONES; one++) {
@@ -776,14 +778,22 @@ public final class SilentCouncil {
             }
         }
 
+        int sign(int minute) {
+            int who = filling[minute];
+            return isOne(who) ? 'a' + who : '.';
+        }
+
         /** How many ways from this minute on; it stops at the wanted one, which is the filling then. */
         private static int ways(Book book, int minute, int wanted) {
-            if (minute < 0 || minute >= book.length || minute >= BOOK_SIGNS) {
+            if (minute < 0 || minute >= book.length) {
                 return 1;
             }
+            int line = book.lines[minute];
+            int first = line == HOLE ? 0 : line;
+            int last = line == HOLE ? NOBODY : line;
             int found = 0;
-            for (int who = 0; who <= NOBODY && found <= wanted; who++) {
-                if (book.matches(minute, who) && book.canSpeak(minute, who)) {
+            for (int who = first; who <= last && found <= wanted; who++) {
+                if (book.canSpeak(minute, who)) {
                     book.filling[minute] = who;
                     book.count(who, 1);
                     found += ways(book, minute + 1, wanted - found);
@@ -796,20 +806,19 @@ public final class SilentCouncil {
         /** All save by a hole that nobody fills, so no way holds longer than that one. */
         int firstFalse() {
             for (int minute = 0; minute < length; minute++) {
-                int who = signs[minute] - 'a';
-                if (isOne(who)) {
-                    if (!canSpeak(minute, who)) {
-                        return minute;
-                    }
-                    count(who, 1);
+                if (!canSpeak(minute, lines[minute])) {
+                    return minute;
                 }
+                count(lines[minute], 1);
             }
             return NONE;
         }
 
-        private boolean matches(int minute, int who) {
-            int sign = signs[minute];
-            return sign == '*' || sign == (who == NOBODY ? '.' : 'a' + who);
+        private static int line(int sign) {
+            if (sign == '*') {
+                return HOLE;
+            }
+            return isOneSign(sign) ? sign - 'a' : NOBODY;
         }
 
         /** Each minute before is saved, but for those spoken, which are paid. */
