@@ -13,7 +13,7 @@ public final class BooksTest {
         Due.end("BooksTest");
     }
 
-    private static void ways(SilentCouncil x, String text, String... ways) {
+    private static void ways(Council x, String text, String... ways) {
         Due.write(x, text);
         Due.is("filled(-1, 0) of " + text, x.filled(-1, 0), ways.length);
         for (int i = 0; i < ways.length; i++) {
@@ -27,7 +27,7 @@ public final class BooksTest {
 
     private static void filled() {
         Due.part("promise 17");
-        SilentCouncil x = new SilentCouncil();
+        Council x = new Council();
         ways(x, "a");
         ways(x, ".", ".");
         ways(x, "*", ".");
@@ -46,7 +46,7 @@ public final class BooksTest {
     }
 
     private static void filledEdges() {
-        SilentCouncil x = new SilentCouncil();
+        Council x = new Council();
         Due.saved(x, 999, 999, 999, 999, 999, 999);
         Due.write(x, "a*b*c*d*e*f.");
         Due.is("all ways", x.filled(-1, 0), 16807);
@@ -79,7 +79,7 @@ public final class BooksTest {
     }
 
     private static void filledRefused() {
-        SilentCouncil x = new SilentCouncil();
+        Council x = new Council();
         for (String text : new String[] {"", "1", "a1", "******", ".............", "g"}) {
             Due.write(x, text);
             Due.is("filled of " + text, x.filled(-1, 0), NO);
@@ -89,14 +89,14 @@ public final class BooksTest {
         }
     }
 
-    private static void lies(SilentCouncil x, String text, int want) {
+    private static void lies(Council x, String text, int want) {
         Due.write(x, text);
         Due.is("lie of " + text, x.lie(), want);
     }
 
     private static void lie() {
         Due.part("promise 18");
-        SilentCouncil x = new SilentCouncil();
+        Council x = new Council();
         lies(x, "a", 0);
         lies(x, "*", NONE);
         lies(x, ".a", NONE);
@@ -128,7 +128,7 @@ public final class BooksTest {
 
     private static void floor() {
         Due.part("promise 19");
-        SilentCouncil x = new SilentCouncil();
+        Council x = new Council();
         for (int set = 0; set < 64; set++) {
             Due.is("floor of nothing saved", x.floor(set), 0);
         }
@@ -151,7 +151,7 @@ public final class BooksTest {
 
     private static void friends() {
         Due.part("promise 20");
-        SilentCouncil x = new SilentCouncil();
+        Council x = new Council();
         for (int one = 0; one < 6; one++) {
             Due.is("friends for no minutes", x.friends(one, 0), 1 << one);
             Due.is("friends that are none", x.friends(one, 1), NONE);

@@ -26,31 +26,37 @@ final class Due {
     }
 
     /** Puts a text on the pad, in place of what is there. */
-    static void write(SilentCouncil x, String text) {
+    static void write(Council x, String text) {
         x.wipe();
         for (int i = 0; i < text.length(); i++) {
             is("say " + text.charAt(i), x.say(text.charAt(i)), i + 1);
         }
     }
 
-    static void saved(SilentCouncil x, int... minutes) {
+    static void saved(Council x, int... minutes) {
         for (int one = 0; one < minutes.length; one++) {
             x.set(one, 0, minutes[one]);
         }
     }
 
-    /** All that told tells of, as one text. */
-    static String all(SilentCouncil x) {
+    /** All that told tells of, and about, as one text. */
+    static String all(Council x) {
         StringBuilder all = new StringBuilder();
-        for (int what = 0; what < 136; what++) {
-            int told = x.told(what);
-            if (told != SilentCouncil.OUTSIDE) {
-                all.append(what).append('=').append(told).append(' ');
+        for (int what = 0; what < 4; what++) {
+            all.append(x.told(what)).append(what < 3 ? ' ' : '|');
+        }
+        for (int what = 10; what < 50; what++) {
+            if (what % 10 < 6) {
+                all.append(x.told(what)).append(what % 10 < 5 ? ' ' : '|');
             }
         }
-        for (int matter = 0; matter < x.told(1); matter++) {
+        for (int what = 100; what < 136; what++) {
+            all.append(x.told(what)).append(' ');
+        }
+        int matters = x.told(1);
+        for (int matter = 0; matter < matters; matter++) {
             for (int what = 0; what < 3; what++) {
-                all.append(x.about(matter, what)).append(',');
+                all.append(what == 0 ? '|' : ' ').append(x.about(matter, what));
             }
         }
         return all.toString();

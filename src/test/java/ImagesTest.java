@@ -6,13 +6,14 @@ public final class ImagesTest {
     public static void main(String[] args) {
         image();
         restore();
+        restoreBehind();
         restoreRefused();
         told();
         Due.end("ImagesTest");
     }
 
     /** Changes each thing that an image keeps. */
-    private static void stir(SilentCouncil x, int seed) {
+    private static void stir(Council x, int seed) {
         for (int one = 0; one < 6; one++) {
             x.set(one, 0, seed * 7 + one);
             x.set(one, 1, seed + one & 1);
@@ -30,11 +31,17 @@ public final class ImagesTest {
         }
     }
 
+    private static Council stirred(int seed) {
+        Council x = new Council();
+        stir(x, seed);
+        return x;
+    }
+
     private static void image() {
         Due.part("promise 21");
-        SilentCouncil x = new SilentCouncil();
+        Council x = new Council();
+        String then = Due.all(stirred(3));
         stir(x, 3);
-        String then = Due.all(x);
         Due.is("image(0)", x.image(0), 1);
         Due.is("image(1)", x.image(1), 1);
         Due.holds("an image changes nothing", Due.all(x).equals(then));
@@ -43,8 +50,8 @@ public final class ImagesTest {
         }
         stir(x, 5);
         Due.is("image(0) once more", x.image(0), 1);
-        String later = Due.all(x);
-        stir(x, 1);
+        String later = Due.all(stirred(5));
+        x.clear();
         Due.is("restore(0)", x.restore(0), 1);
         Due.holds("the later one stands in 0", Due.all(x).equals(later));
         Due.is("restore(1)", x.restore(1), 1);
@@ -53,11 +60,11 @@ public final class ImagesTest {
 
     private static void restore() {
         Due.part("promise 22");
-        SilentCouncil x = new SilentCouncil();
-        String fresh = Due.all(x);
+        Council x = new Council();
+        String fresh = Due.all(new Council());
+        String eight = Due.all(stirred(8));
         x.image(1);
         stir(x, 8);
-        String eight = Due.all(x);
         int least = x.least(-1);
         int gifts = x.gifts();
         x.image(0);
@@ -70,6 +77,12 @@ public final class ImagesTest {
         stir(x, 2);
         Due.is("restore(0) again", x.restore(0), 1);
         Due.holds("as kept again", Due.all(x).equals(eight));
+    }
+
+    private static void restoreBehind() {
+        Council x = new Council();
+        String fresh = Due.all(new Council());
+        x.image(1);
         x.restore(1);
         x.set(0, 0, 9);
         x.lend(0, 1, 9);
@@ -87,7 +100,7 @@ public final class ImagesTest {
     }
 
     private static void restoreRefused() {
-        SilentCouncil x = new SilentCouncil();
+        Council x = new Council();
         for (int n : new int[] {-1, 2, LOW, HIGH}) {
             Due.is("restore(" + n + ")", x.restore(n), OUTSIDE);
         }
@@ -103,7 +116,7 @@ public final class ImagesTest {
 
     private static void told() {
         Due.part("promise 23");
-        SilentCouncil x = new SilentCouncil();
+        Council x = new Council();
         stir(x, 3);
         Due.write(x, "a1b");
         Due.is("signs", x.told(0), 3);
@@ -120,6 +133,7 @@ public final class ImagesTest {
             }
         }
         for (int what = -60; what < 300; what++) {
+            x = what % 100 == 0 ? stirred(3) : x;
             boolean known = what >= 0 && what <= 3 || what >= 10 && what < 50 && what % 10 < 6
                 || what >= 100 && what < 136;
             Due.is("told(" + what + ")", x.told(what) == OUTSIDE ? 1 : 0, known ? 0 : 1);

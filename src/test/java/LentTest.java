@@ -13,7 +13,7 @@ public final class LentTest {
 
     private static void lend() {
         Due.part("promise 14");
-        SilentCouncil x = new SilentCouncil();
+        Council x = new Council();
         for (int one = 0; one < 6; one++) {
             for (int to = 0; to < 6; to++) {
                 if (one != to) {
@@ -32,7 +32,7 @@ public final class LentTest {
     }
 
     private static void lendRefused() {
-        SilentCouncil x = new SilentCouncil();
+        Council x = new Council();
         for (int one : new int[] {-1, 6, LOW, HIGH}) {
             Due.is("lend of " + one, x.lend(one, 0, 1), UNKNOWN);
             Due.is("lend to " + one, x.lend(0, one, 1), UNKNOWN);
@@ -46,12 +46,12 @@ public final class LentTest {
         for (int v : new int[] {-1, 100, LOW, HIGH}) {
             Due.is("lend " + v, x.lend(0, 1, v), OUTSIDE);
         }
-        Due.holds("nothing is changed", Due.all(x).equals(Due.all(new SilentCouncil())));
+        Due.holds("nothing is changed", Due.all(x).equals(Due.all(new Council())));
     }
 
     private static void net() {
         Due.part("promise 15");
-        SilentCouncil x = new SilentCouncil();
+        Council x = new Council();
         x.lend(0, 1, 9);
         x.lend(1, 0, 4);
         x.lend(2, 0, 1);
@@ -63,7 +63,7 @@ public final class LentTest {
             x.lend(5, to, 99);
         }
         Due.is("net(5)", x.net(5), 1495);
-        SilentCouncil y = new SilentCouncil();
+        Council y = new Council();
         for (int one = 1; one < 6; one++) {
             y.lend(one, 0, 99);
         }
@@ -75,7 +75,7 @@ public final class LentTest {
 
     /** The nets stand as what d lends, below 0, and is lent, above 0, to who has them. */
     private static void gifts(int want, int... nets) {
-        SilentCouncil x = new SilentCouncil();
+        Council x = new Council();
         for (int one = 0; one < 6; one++) {
             int net = one < nets.length ? nets[one] : 0;
             if (one != 5 && net > 0) {
@@ -89,7 +89,7 @@ public final class LentTest {
 
     private static void gifts() {
         Due.part("promise 16");
-        Due.is("gifts of none", new SilentCouncil().gifts(), 0);
+        Due.is("gifts of none", new Council().gifts(), 0);
         gifts(1, 7);
         gifts(1, 7, -7);
         gifts(2, 7, -7, 3);
@@ -101,7 +101,7 @@ public final class LentTest {
         gifts(4, 3, 5, -8, 9, 1);
         gifts(3, 3, 5, -3, -5, 9);
         gifts(4, 10, 10, 10, -15, -15);
-        SilentCouncil x = new SilentCouncil();
+        Council x = new Council();
         for (int one = 0; one < 6; one++) {
             for (int to = 0; to < 6; to++) {
                 x.lend(one, to, 99);

@@ -18,7 +18,7 @@ public final class MattersTest {
 
     private static void matter() {
         Due.part("promise 9");
-        SilentCouncil x = new SilentCouncil();
+        Council x = new Council();
         for (int n = 0; n < 8; n++) {
             Due.is("matter", x.matter(n % 6, n == 0 ? 1 : 60, (1 << n) - 1), n);
             Due.is("told(1)", x.told(1), n + 1);
@@ -37,7 +37,7 @@ public final class MattersTest {
     }
 
     private static void matterRefused() {
-        SilentCouncil x = new SilentCouncil();
+        Council x = new Council();
         x.matter(0, 5, 0);
         x.matter(1, 5, 0);
         for (int one : new int[] {-1, 6, LOW, HIGH}) {
@@ -56,7 +56,7 @@ public final class MattersTest {
 
     private static void about() {
         Due.part("promise 10");
-        SilentCouncil x = new SilentCouncil();
+        Council x = new Council();
         Due.is("about none", x.about(0, 0), UNKNOWN);
         x.matter(5, 60, 0);
         x.matter(3, 2, 1);
@@ -77,7 +77,7 @@ public final class MattersTest {
 
     private static void clear() {
         Due.part("promise 11");
-        SilentCouncil x = new SilentCouncil();
+        Council x = new Council();
         Due.is("clear of none", x.clear(), 0);
         for (int n = 0; n < 8; n++) {
             x.matter(n % 6, 3, 0);
@@ -93,7 +93,7 @@ public final class MattersTest {
         Due.is("matter", x.matter(0, 1, 0), 0);
     }
 
-    private static void order(SilentCouncil x, int least, int... order) {
+    private static void order(Council x, int least, int... order) {
         Due.is("least(-1)", x.least(-1), least);
         for (int n = 0; n < order.length; n++) {
             Due.is("least(" + n + ")", x.least(n), order[n]);
@@ -103,7 +103,7 @@ public final class MattersTest {
 
     private static void least() {
         Due.part("promise 12");
-        SilentCouncil x = new SilentCouncil();
+        Council x = new Council();
         order(x, 0);
         x.matter(0, 4, 0);
         order(x, 8, 0);
@@ -125,7 +125,7 @@ public final class MattersTest {
     }
 
     private static void leastEdges() {
-        SilentCouncil x = new SilentCouncil();
+        Council x = new Council();
         for (int i : new int[] {-2, 0, 1, 7, 8, LOW, HIGH}) {
             Due.is("least of none " + i, x.least(i), NONE);
         }
@@ -151,7 +151,7 @@ public final class MattersTest {
     }
 
     private static void order() {
-        SilentCouncil x = new SilentCouncil();
+        Council x = new Council();
         x.matter(0, 10, 0);
         x.matter(1, 1, 0);
         x.matter(2, 2, 0);
@@ -172,7 +172,7 @@ public final class MattersTest {
 
     private static void dealt() {
         Due.part("promise 13");
-        SilentCouncil x = new SilentCouncil();
+        Council x = new Council();
         x.matter(1, 5, 0);
         x.matter(4, 5, 0);
         x.set(1, 0, 999);
@@ -196,7 +196,7 @@ public final class MattersTest {
         Due.is("four have matters", x.dealt(20, 2), NONE);
     }
 
-    private static void deal(SilentCouncil x, int minutes, int least, int... shares) {
+    private static void deal(Council x, int minutes, int least, int... shares) {
         Due.is("dealt(" + minutes + ", -1)", x.dealt(minutes, -1), least);
         for (int one = 0; one < shares.length; one++) {
             Due.is("dealt(" + minutes + ", " + one + ")", x.dealt(minutes, one), shares[one]);
@@ -204,7 +204,7 @@ public final class MattersTest {
     }
 
     private static void dealtRefused() {
-        SilentCouncil x = new SilentCouncil();
+        Council x = new Council();
         Due.is("nobody has matters", x.dealt(0, -1), NO);
         Due.is("nobody has matters", x.dealt(20, 0), NO);
         for (int one : new int[] {-2, 6, LOW, HIGH}) {

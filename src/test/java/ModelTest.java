@@ -2,11 +2,12 @@ import java.util.Random;
 
 /** Promises 1 to 23: runs of calls, each answer beside the model's; then the searches on their own. */
 public final class ModelTest {
-    private static final int CALLS = 512;
+    /** What a run leaves of its 512 calls, to tell all behind it; no step of it asks more than five. */
+    private static final int LEFT_BEHIND = 142, MOST_OF_STEP = 5;
     private static final String[] KINDS = {"sittings", "matters", "lent", "books", "all"};
 
     public static void main(String[] args) {
-        for (int seed = 0; seed < 600; seed++) {
+        for (int seed = 0; seed < 900; seed++) {
             run(seed, seed % 5);
         }
         for (int seed = 0; seed < 60; seed++) {
@@ -24,9 +25,9 @@ public final class ModelTest {
     private static void run(int seed, int kind) {
         Due.part("run " + seed + " of " + KINDS[kind]);
         Random random = new Random(seed);
-        SilentCouncil x = new SilentCouncil();
+        Council x = new Council();
         Model y = new Model();
-        for (int n = 0; n < CALLS; n++) {
+        while (x.left() >= LEFT_BEHIND + MOST_OF_STEP) {
             int part = random.nextInt(10);
             if (part == 0) {
                 common(x, y, random);
@@ -70,7 +71,7 @@ public final class ModelTest {
         }
     }
 
-    private static void common(SilentCouncil x, Model y, Random random) {
+    private static void common(Council x, Model y, Random random) {
         int n = about(random, 0, 1);
         int one = about(random, 0, 5);
         int what = about(random, 0, 3);
@@ -95,7 +96,7 @@ public final class ModelTest {
         }
     }
 
-    private static void text(SilentCouncil x, Model y, String text) {
+    private static void text(Council x, Model y, String text) {
         for (int i = 0; i < text.length(); i++) {
             Due.is("say " + text.charAt(i), x.say(text.charAt(i)), y.say(text.charAt(i)));
         }
@@ -120,7 +121,7 @@ public final class ModelTest {
         return "" + (char) (33 + random.nextInt(94));
     }
 
-    private static void sitting(SilentCouncil x, Model y, Random random) {
+    private static void sitting(Council x, Model y, Random random) {
         int what = about(random, 0, 40);
         switch (random.nextInt(16)) {
             case 0:
@@ -149,7 +150,7 @@ public final class ModelTest {
         }
     }
 
-    private static void matters(SilentCouncil x, Model y, Random random) {
+    private static void matters(Council x, Model y, Random random) {
         int count = y.told(1);
         int one = about(random, 0, 5);
         switch (random.nextInt(10)) {
@@ -188,7 +189,7 @@ public final class ModelTest {
         }
     }
 
-    private static void add(SilentCouncil x, Model y, Random random, int one, int most) {
+    private static void add(Council x, Model y, Random random, int one, int most) {
         int minutes = about(random, 1, most);
         int behind = 0;
         for (int n = 0; n < y.told(1); n++) {
@@ -199,7 +200,7 @@ public final class ModelTest {
             y.matter(one, minutes, behind));
     }
 
-    private static void lent(SilentCouncil x, Model y, Random random) {
+    private static void lent(Council x, Model y, Random random) {
         int one = about(random, 0, 5);
         int to = about(random, 0, 5);
         int v = about(random, 0, random.nextInt(3) == 0 ? 99 : 3);
@@ -217,7 +218,7 @@ public final class ModelTest {
         }
     }
 
-    private static void books(SilentCouncil x, Model y, Random random) {
+    private static void books(Council x, Model y, Random random) {
         int i = random.nextInt(3) == 0 ? -1 : about(random, 0, random.nextBoolean() ? 20 : 400);
         int k = about(random, 0, 11);
         int one = about(random, 0, 5);
@@ -264,7 +265,7 @@ public final class ModelTest {
     /** Up to eight matters: least and order. */
     private static void manyMatters(Random random) {
         Due.part("many matters");
-        SilentCouncil x = new SilentCouncil();
+        Council x = new Council();
         Model y = new Model();
         int most = 1 + random.nextInt(20);
         int count = 6 + random.nextInt(3);
@@ -284,12 +285,14 @@ public final class ModelTest {
     /** Up to eight matters of four: each deal is tried by least, which the model vouches for. */
     private static void deals(Random random) {
         Due.part("deals");
-        SilentCouncil x = new SilentCouncil();
+        Council x = new Council();
         int most = 1 + random.nextInt(30);
         int[] ones = {random.nextInt(2), 2, 3, 4 + random.nextInt(2)};
+        int[][] matters = new int[8][];
         for (int n = 0; n < 8; n++) {
             int behind = random.nextInt(3) == 0 ? random.nextInt(1 << n) & random.nextInt(1 << n) : 0;
-            x.matter(ones[random.nextInt(4)], 1 + random.nextInt(most), behind);
+            matters[n] = new int[] {ones[random.nextInt(4)], 1 + random.nextInt(most), behind};
+            x.matter(matters[n][0], matters[n][1], matters[n][2]);
         }
         int minutes = random.nextInt(21);
         int[] best = {Integer.MAX_VALUE, 0, 0, 0, 0};
@@ -302,7 +305,7 @@ public final class ModelTest {
                 for (int c = has[2] ? minutes - a - b : 0; c >= 0; c--) {
                     int[] deal = {a, b, c, minutes - a - b - c};
                     if (has[3] || deal[3] == 0) {
-                        tryDeal(x, ones, deal, best);
+                        tryDeal(matters, ones, deal, best);
                     }
                 }
             }
@@ -313,10 +316,10 @@ public final class ModelTest {
         }
     }
 
-    private static void tryDeal(SilentCouncil x, int[] ones, int[] deal, int[] best) {
-        SilentCouncil other = new SilentCouncil();
-        for (int n = 0; n < x.told(1); n++) {
-            other.matter(x.about(n, 0), x.about(n, 1), x.about(n, 2));
+    private static void tryDeal(int[][] matters, int[] ones, int[] deal, int[] best) {
+        Council other = new Council();
+        for (int[] matter : matters) {
+            other.matter(matter[0], matter[1], matter[2]);
         }
         for (int n = 0; n < 4; n++) {
             other.set(ones[n], 0, deal[n]);
@@ -331,11 +334,14 @@ public final class ModelTest {
     /** Pauses wherever they may be, of whatever length: no sitting of matters ends sooner. */
     private static void pauses(Random random) {
         Due.part("pauses");
-        SilentCouncil x = new SilentCouncil();
+        Council x = new Council();
         int count = 1 + random.nextInt(5);
         int[] saved = new int[6];
+        int[][] matters = new int[count][];
         for (int n = 0; n < count; n++) {
-            x.matter(random.nextInt(3), 1 + random.nextInt(6), random.nextInt(3) == 0 ? random.nextInt(1 << n) : 0);
+            int behind = random.nextInt(3) == 0 ? random.nextInt(1 << n) : 0;
+            matters[n] = new int[] {random.nextInt(3), 1 + random.nextInt(6), behind};
+            x.matter(matters[n][0], matters[n][1], matters[n][2]);
         }
         for (int one = 0; one < 3; one++) {
             saved[one] = random.nextInt(7);
@@ -351,26 +357,27 @@ public final class ModelTest {
             }
             for (int said = 0; said < 1 << count; said++) {
                 if (reached[minute][said]) {
-                    goOn(x, saved, reached, minute, said);
+                    goOn(matters, saved, reached, minute, said);
                 }
             }
         }
         Due.holds("some sitting ends", false);
     }
 
-    private static void goOn(SilentCouncil x, int[] saved, boolean[][] reached, int minute, int said) {
+    private static void goOn(int[][] matters, int[] saved, boolean[][] reached, int minute, int said) {
         if (minute + 1 < reached.length) {
             reached[minute + 1][said] = true;
         }
-        for (int n = 0; n < x.told(1); n++) {
-            int one = x.about(n, 0);
+        for (int n = 0; n < matters.length; n++) {
+            int one = matters[n][0];
+            int minutes = matters[n][1];
             int has = saved[one] + minute;
-            for (int m = 0; m < x.told(1); m++) {
-                has -= (said >> m & 1) == 1 && x.about(m, 0) == one ? 2 * x.about(m, 1) : 0;
+            for (int m = 0; m < matters.length; m++) {
+                has -= (said >> m & 1) == 1 && matters[m][0] == one ? 2 * matters[m][1] : 0;
             }
-            boolean isNext = (said >> n & 1) == 0 && (x.about(n, 2) & ~said) == 0;
-            if (isNext && has >= x.about(n, 1) && minute + x.about(n, 1) < reached.length) {
-                reached[minute + x.about(n, 1)][said | 1 << n] = true;
+            boolean isNext = (said >> n & 1) == 0 && (matters[n][2] & ~said) == 0;
+            if (isNext && has >= minutes && minute + minutes < reached.length) {
+                reached[minute + minutes][said | 1 << n] = true;
             }
         }
     }

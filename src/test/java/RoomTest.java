@@ -27,7 +27,7 @@ public final class RoomTest {
         Due.end("RoomTest");
     }
 
-    /** 512 calls, each kind of them. */
+    /** Some 500 calls, each kind of them. */
     private static void use(SilentCouncil x) {
         for (int n = 0; n < 8; n++) {
             x.matter(n % 4, 7 * n + 3, 0);
@@ -55,7 +55,7 @@ public final class RoomTest {
             x.about(n % 8, n % 3);
         }
         x.clear();
-        for (int n = 0; n < 5; n++) {
+        for (int n = 0; n < 4; n++) {
             x.wipe();
             for (int part = 0; part < 13; part++) {
                 x.say('?');

@@ -26,7 +26,7 @@ public final class SittingsTest {
 
     private static void newObject() {
         Due.part("promise 1");
-        SilentCouncil x = new SilentCouncil();
+        Council x = new Council();
         for (int one = 0; one < 6; one++) {
             Due.is("told SAVED", x.told(10 + one), 0);
             Due.is("told IN", x.told(20 + one), 1);
@@ -43,7 +43,7 @@ public final class SittingsTest {
         Due.is("told ASKED", x.told(3), 2);
         Due.is("restore(0)", x.restore(0), SilentCouncil.STATE);
         Due.is("restore(1)", x.restore(1), SilentCouncil.STATE);
-        SilentCouncil y = new SilentCouncil();
+        Council y = new Council();
         x.set(0, 0, 5);
         x.say('a');
         x.image(0);
@@ -56,7 +56,7 @@ public final class SittingsTest {
         Due.part("promise 2");
         int[] most = {999, 1, 1, 99};
         int[] first = {0, 1, 1, 0};
-        SilentCouncil x = new SilentCouncil();
+        Council x = new Council();
         for (int one = 0; one < 6; one++) {
             for (int what = 0; what < 4; what++) {
                 Due.is("set most", x.set(one, what, most[what]), first[what]);
@@ -67,7 +67,7 @@ public final class SittingsTest {
                 Due.is("set first", x.set(one, what, first[what]), 1);
             }
         }
-        Due.is("nothing else is changed", Due.all(x).equals(Due.all(new SilentCouncil())) ? 1 : 0, 1);
+        Due.is("nothing else is changed", Due.all(x).equals(Due.all(new Council())) ? 1 : 0, 1);
         x.set(3, 0, 7);
         x.set(3, 3, 9);
         x.set(3, 1, 0);
@@ -80,7 +80,7 @@ public final class SittingsTest {
 
     private static void setRefused() {
         int[] most = {999, 1, 1, 99};
-        SilentCouncil x = new SilentCouncil();
+        Council x = new Council();
         for (int one : new int[] {-1, 6, LOW, HIGH}) {
             Due.is("set unknown", x.set(one, 0, 0), UNKNOWN);
             Due.is("set unknown before outside", x.set(one, 9, -9), UNKNOWN);
@@ -93,12 +93,12 @@ public final class SittingsTest {
                 Due.is("set v", x.set(5, what, v), OUTSIDE);
             }
         }
-        Due.holds("nothing is changed", Due.all(x).equals(Due.all(new SilentCouncil())));
+        Due.holds("nothing is changed", Due.all(x).equals(Due.all(new Council())));
     }
 
     private static void law() {
         Due.part("promise 3");
-        SilentCouncil x = new SilentCouncil();
+        Council x = new Council();
         Due.is("law(0, 0)", x.law(0, 0), 5);
         Due.is("law(0, 99)", x.law(0, 99), 0);
         Due.is("law(1, 0)", x.law(1, 0), 2);
@@ -120,7 +120,7 @@ public final class SittingsTest {
 
     private static void say() {
         Due.part("promise 4");
-        SilentCouncil x = new SilentCouncil();
+        Council x = new Council();
         for (int sign : new int[] {32, 127, 0, -1, 97 + 65536, LOW, HIGH}) {
             Due.is("say " + sign, x.say(sign), OUTSIDE);
         }
@@ -142,7 +142,7 @@ public final class SittingsTest {
 
     private static void wipe() {
         Due.part("promise 5");
-        SilentCouncil x = new SilentCouncil();
+        Council x = new Council();
         Due.is("wipe of none", x.wipe(), 0);
         Due.write(x, "a1.");
         Due.is("wipe", x.wipe(), 3);
@@ -158,12 +158,10 @@ public final class SittingsTest {
 
     private static void faultOfSittings() {
         Due.part("promise 6");
-        SilentCouncil x = new SilentCouncil();
         String[] good = {"", "a1", "f9", ".1", ".9", "za", "zf", "ya", "xb", "ic", "kd", "?ab", "?fa",
             "a1b2c3d4e5f6.7zaybxcidke?fa", "?ab?ba", ".1.1.1.1.1.1.1.1.1.1.1.1.1.1.1.1.1.1.1.1"};
         for (String text : good) {
-            Due.write(x, text);
-            Due.is("fault(0) of " + text, x.fault(0), NONE);
+            fault(0, text, NONE);
         }
         String[] bad = {"g1", "A1", "1", "*", "a0", "a:", "aa", "a.", ".0", "..", "z.", "z1", "zg", "yz", "xx",
             "i`", "k?", "?.", "?1", "??", "?g", "?aa", "?ff", "?ag", "?a1", "?a?", "a1b0", "?ab?cc", "?ab1",
@@ -171,46 +169,46 @@ public final class SittingsTest {
         int[] places = {0, 0, 0, 0, 1, 1, 1, 1, 1, 1, 1, 1, 1, 1, 1, 1, 1, 1, 1, 1, 1, 2, 2, 2, 2, 2, 3, 5, 3,
             1, 1, 1, 1, 1, 1, 1, 1, 2, 3, 4, 5};
         for (int n = 0; n < bad.length; n++) {
-            Due.write(x, bad[n]);
-            Due.is("fault(0) of " + bad[n], x.fault(0), places[n]);
+            fault(0, bad[n], places[n]);
         }
-        Due.write(x, ".1".repeat(19) + "?a");
-        Due.is("more must come on a full pad", x.fault(0), 40);
+        fault(0, ".1".repeat(19) + "?a", 40);
         String heads = "abcdef.zyxik?";
         for (char sign = 33; sign <= 126; sign++) {
-            Due.write(x, "" + sign);
-            Due.is("fault(0) of " + sign, x.fault(0), heads.indexOf(sign) < 0 ? 0 : 1);
+            fault(0, "" + sign, heads.indexOf(sign) < 0 ? 0 : 1);
         }
         for (int how : new int[] {-1, 2, LOW, HIGH}) {
-            Due.is("fault how", x.fault(how), OUTSIDE);
+            Due.is("fault how", new Council().fault(how), OUTSIDE);
         }
     }
 
+    private static void fault(int how, String text, int want) {
+        Council x = new Council();
+        Due.write(x, text);
+        Due.is("fault(" + how + ") of " + text, x.fault(how), want);
+    }
+
     private static void faultOfBooks() {
-        SilentCouncil x = new SilentCouncil();
-        Due.is("no signs", x.fault(1), 0);
+        fault(1, "", 0);
         String[] texts = {"a", "f", ".", "*", "abcdef", "*****", "*a*b*c*d*...", "............", ".............",
             "******", "*****......*", "*****.......*", "a1", "g", "`", "abcdefg", "............g", "aaaaaaaaaaaaa1", "A",
             "?ab", "*****1*"};
         int[] faults = {NONE, NONE, NONE, NONE, NONE, NONE, NONE, NONE, 12, 5, 11, 12, 1, 0, 0, 6, 12, 12, 0, 0, 5};
         for (int n = 0; n < texts.length; n++) {
-            Due.write(x, texts[n]);
-            Due.is("fault(1) of " + texts[n], x.fault(1), faults[n]);
+            fault(1, texts[n], faults[n]);
         }
         for (char sign = 33; sign <= 126; sign++) {
-            Due.write(x, "." + sign);
-            Due.is("fault(1) of ." + sign, x.fault(1), "abcdef.*".indexOf(sign) < 0 ? 1 : NONE);
+            fault(1, "." + sign, "abcdef.*".indexOf(sign) < 0 ? 1 : NONE);
         }
     }
 
-    private static void trial(SilentCouncil x, String text, int minutes, int first, int without) {
+    private static void trial(Council x, String text, int minutes, int first, int without) {
         Due.write(x, text);
         Due.is("sits(0) of " + text, x.sits(0), minutes);
         Due.is("sits(1) of " + text, x.sits(1), first);
         Due.is("sits(2) of " + text, x.sits(2), without);
     }
 
-    private static void ones(SilentCouncil x, int row, int... want) {
+    private static void ones(Council x, int row, int... want) {
         for (int one = 0; one < want.length; one++) {
             Due.is("sits(" + (row + one) + ")", x.sits(row + one), want[one]);
         }
@@ -218,7 +216,7 @@ public final class SittingsTest {
 
     private static void sitsPauses() {
         Due.part("promise 7");
-        SilentCouncil x = new SilentCouncil();
+        Council x = new Council();
         trial(x, "", 0, NONE, 0);
         ones(x, 10, 0, 0, 0, 0, 0, 0);
         ones(x, 20, 0, 0, 0, 0, 0, 0);
@@ -237,7 +235,7 @@ public final class SittingsTest {
     }
 
     private static void sitsWithout() {
-        SilentCouncil x = new SilentCouncil();
+        Council x = new Council();
         trial(x, "a1", 1, 0, 1);
         ones(x, 10, 1, 0, 0, 0, 0, 0);
         ones(x, 20, 0, 1, 1, 1, 1, 1);
@@ -257,7 +255,7 @@ public final class SittingsTest {
     }
 
     private static void sitsHalfFree() {
-        SilentCouncil x = new SilentCouncil();
+        Council x = new Council();
         x.law(1, 5);
         x.set(1, 0, 20);
         trial(x, "?abb1", 1, NONE, 0);
@@ -298,7 +296,7 @@ public final class SittingsTest {
     }
 
     private static void sitsComings() {
-        SilentCouncil x = new SilentCouncil();
+        Council x = new Council();
         Due.saved(x, 5, 5, 5, 5, 5, 5);
         x.set(0, 3, 3);
         trial(x, "xa", 0, NONE, 0);
@@ -319,7 +317,7 @@ public final class SittingsTest {
     }
 
     private static void sitsCoughs() {
-        SilentCouncil x = new SilentCouncil();
+        Council x = new Council();
         Due.saved(x, 7, 5, 4, 20, 20, 0);
         trial(x, "kakbkckdkdzekekf", 0, NONE, 0);
         ones(x, 20, 2, 0, 0, 10, 15, 0);
@@ -336,7 +334,7 @@ public final class SittingsTest {
     }
 
     private static void sitsChangesNothing() {
-        SilentCouncil x = new SilentCouncil();
+        Council x = new Council();
         Due.saved(x, 7, 5, 4, 20, 20, 0);
         x.law(1, 9);
         Due.write(x, ".9xazb?cdkea3");
@@ -349,7 +347,7 @@ public final class SittingsTest {
     }
 
     private static void sitsRefused() {
-        SilentCouncil x = new SilentCouncil();
+        Council x = new Council();
         for (int what : new int[] {-1, 3, 9, 16, 19, 26, 29, 36, 40, 45, 110, -10, -15, LOW, HIGH}) {
             Due.is("sits " + what, x.sits(what), OUTSIDE);
         }
@@ -362,7 +360,7 @@ public final class SittingsTest {
 
     private static void sit() {
         Due.part("promise 8");
-        SilentCouncil x = new SilentCouncil();
+        Council x = new Council();
         Due.is("sit of nothing", x.sit(), 0);
         x.law(1, 3);
         x.law(0, 2);
@@ -388,13 +386,14 @@ public final class SittingsTest {
     }
 
     private static void sitRefused() {
-        SilentCouncil x = new SilentCouncil();
         for (String text : new String[] {"a", "a0", "?aa", "*", "a1", ".1a2", ".3zaa1", ".3xaa1"}) {
+            Council x = new Council();
             Due.write(x, text);
             String before = Due.all(x);
             Due.is("sit of " + text, x.sit(), NO);
             Due.holds("nothing is changed by " + text, Due.all(x).equals(before));
         }
+        Council x = new Council();
         Due.write(x, ".1a2b1");
         Due.is("a later minute is with", x.sit(), NO);
         x.set(0, 0, 1);

@@ -1,0 +1,110 @@
+/**
+ * A council of which no more is asked than the document promises: 512 calls. What later
+ * calls answer is free, so a test that goes on beyond them is wrong itself.
+ */
+final class Council {
+    static final int MOST_CALLS = 512;
+
+    private final SilentCouncil council = new SilentCouncil();
+    private int calls = 0;
+
+    int left() {
+        return MOST_CALLS - calls;
+    }
+
+    private SilentCouncil next() {
+        if (calls == MOST_CALLS) {
+            throw new IllegalStateException("the test asks a 513th call");
+        }
+        calls++;
+        return council;
+    }
+
+    int set(int one, int what, int v) {
+        return next().set(one, what, v);
+    }
+
+    int law(int which, int v) {
+        return next().law(which, v);
+    }
+
+    int say(int sign) {
+        return next().say(sign);
+    }
+
+    int wipe() {
+        return next().wipe();
+    }
+
+    int fault(int how) {
+        return next().fault(how);
+    }
+
+    int sits(int what) {
+        return next().sits(what);
+    }
+
+    int sit() {
+        return next().sit();
+    }
+
+    int matter(int one, int minutes, int behind) {
+        return next().matter(one, minutes, behind);
+    }
+
+    int about(int matter, int what) {
+        return next().about(matter, what);
+    }
+
+    int clear() {
+        return next().clear();
+    }
+
+    int least(int i) {
+        return next().least(i);
+    }
+
+    int dealt(int minutes, int one) {
+        return next().dealt(minutes, one);
+    }
+
+    int lend(int one, int to, int v) {
+        return next().lend(one, to, v);
+    }
+
+    int net(int one) {
+        return next().net(one);
+    }
+
+    int gifts() {
+        return next().gifts();
+    }
+
+    int filled(int i, int k) {
+        return next().filled(i, k);
+    }
+
+    int lie() {
+        return next().lie();
+    }
+
+    int floor(int friends) {
+        return next().floor(friends);
+    }
+
+    int friends(int one, int minutes) {
+        return next().friends(one, minutes);
+    }
+
+    int image(int n) {
+        return next().image(n);
+    }
+
+    int restore(int n) {
+        return next().restore(n);
+    }
+
+    int told(int what) {
+        return next().told(what);
+    }
+}
