@@ -121,6 +121,13 @@ public final class MatterEdgesTest {
             "least 1 = 1");
         new Run("matter {0 1 2} 5 0", "set 2 0 5", "least -1 = 15", "least 0 = 2", "least 1 = 0",
             "least 2 = 1");
+        Due.part("promise 12: not the first that can begin, if no order that begins so ends then");
+        new Run("set 0 0 5", "matter 0 3 0 = 0", "matter 0 5 0 = 1", "matter 1 3 2 = 2", "least -1 = 11",
+            "least 0 = 1", "least 1 = 2", "least 2 = 0", "set 0 0 8", "least -1 = 11", "least 0 = 0",
+            "least 1 = 1", "least 2 = 2");
+        new Run("set 0 0 5", "matter 0 3 0 = 0", "matter 0 5 0 = 1", "matter 1 3 2 = 2",
+            "matter 2 1 {2 2 2 2 2}", "told 1 = 8", "least -1 = 16", "least 0 = 1", "least 1 = 2", "least 2 = 0",
+            "least 3 = 3", "least 7 = 7", "least 8 = NONE");
         Due.part("promise 12: behind all of these, not one of them");
         new Run("matter 0 9 0 = 0", "matter 1 1 1 = 1", "set 1 0 1", "least -1 = 19", "least 0 = 0",
             "least 1 = 1", "clear = 2", "matter 0 9 0 = 0", "matter 1 1 0 = 1", "matter 2 1 3 = 2",
