@@ -6,15 +6,25 @@ final class Council {
     static final int MOST_CALLS = 512;
 
     private final SilentCouncil council = new SilentCouncil();
+    private final int most;
     private int calls = 0;
 
+    Council() {
+        this(MOST_CALLS);
+    }
+
+    /** For what LANGUAGE.md says of any state: its later answers are free, but they are answers. */
+    Council(int most) {
+        this.most = most;
+    }
+
     int left() {
-        return MOST_CALLS - calls;
+        return most - calls;
     }
 
     private SilentCouncil next() {
-        if (calls == MOST_CALLS) {
-            throw new IllegalStateException("the test asks a 513th call");
+        if (calls == most) {
+            throw new IllegalStateException("the test asks more than " + most + " calls");
         }
         calls++;
         return council;

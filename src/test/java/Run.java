@@ -89,7 +89,7 @@ final class Run {
         return x;
     }
 
-    private static void does(Council x, String row) {
+    static void does(Council x, String row) {
         String[] words = row.split(" ", 2);
         if (words[0].equals("pad")) {
             Due.write(x, words[1]);
@@ -134,7 +134,7 @@ final class Run {
         return numbers;
     }
 
-    private static int number(String word) {
+    static int number(String word) {
         switch (word) {
             case "NONE":
                 return SilentCouncil.NONE;
@@ -159,7 +159,7 @@ final class Run {
         }
     }
 
-    private static int answer(Council x, String call) {
+    static int answer(Council x, String call) {
         String[] words = call.split(" ", 2);
         int[] n = words.length < 2 ? new int[0] : numbers(words[1]);
         switch (words[0] + " " + n.length) {
