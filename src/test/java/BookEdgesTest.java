@@ -134,5 +134,8 @@ public final class BookEdgesTest {
             "friends 0 1 = 1");
         Due.part("promise 20: friends, IN, AWAKE or not");
         new Run("set {0..5} {1 2} 0", "set 0 0 3", "friends 0 3 = 1", "friends 0 4 = 3", "friends 5 1 = 33");
+        Due.part("promise 20: from what they have SAVED");
+        new Run("set {0..5} 3 99", "friends {0..5} 1 = NONE", "set 0 0 1", "friends 0 1 = 1", "friends 0 2 = 3",
+            "friends 5 1 = 33");
     }
 }

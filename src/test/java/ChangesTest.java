@@ -10,7 +10,6 @@ public final class ChangesTest {
         "matter 5 60 1", "image 1", "saved 31 32 33", "set 5 1 0", "lend 0 1 6", "law 0 8", "matter 3 1 3",
         "image 0", "saved 41 42 43", "set 5 2 0", "lend 5 0 17", "law 1 19", "matter 1 9 5"};
     private static final String BOOK = "pad .abc.def";
-    private static final int BOOK_SIGNS = 8;
 
     public static void main(String[] args) {
         sets();
@@ -75,13 +74,7 @@ public final class ChangesTest {
         }
         Council x = used(pad);
         Run.does(x, call);
-        Map<String, Integer> is = whole(x);
-        TreeSet<String> names = new TreeSet<>(due.keySet());
-        names.addAll(is.keySet());
-        for (String name : names) {
-            Due.holds(call + ", " + name + ": " + is.get(name) + ", due is " + due.get(name),
-                due.containsKey(name) && due.get(name).equals(is.get(name)));
-        }
+        same(call, whole(x), due);
     }
 
     private static void sets() {
@@ -154,33 +147,43 @@ public final class ChangesTest {
     private static void images() {
         Due.part("promises 21 and 22");
         for (int n = 0; n < 2; n++) {
+            String image = "image " + n + ": ";
             Map<String, Integer> before = whole(used(BOOK));
             Council kept = used(BOOK);
             kept.image(n);
-            same("image " + n, whole(kept), before, "", "image " + n + ": ", "image " + (1 - n) + ": ");
+            taken("image " + n, whole(kept), before, "", image);
             Council restored = used(BOOK);
             restored.restore(n);
-            same("restore " + n, whole(restored), before, "image " + n + ": ", "", "image " + (1 - n) + ": ");
+            taken("restore " + n, whole(restored), before, image, "");
         }
     }
 
-    /** All of the one place is in the other then, the third place and the pad are as before. */
-    private static void same(String call, Map<String, Integer> is, Map<String, Integer> before, String from, String to,
-            String third) {
-        int tolds = 0;
-        for (String name : is.keySet()) {
-            boolean state = name.contains("told ") || name.contains("about ");
-            String place = name.substring(0, name.lastIndexOf(": ") < 0 ? 0 : name.lastIndexOf(": ") + 2);
-            String source = state && place.equals(to) ? from + name.substring(place.length()) : name;
-            tolds += place.equals(to) && state ? 1 : 0;
-            Due.holds(call + ", " + name + ": " + is.get(name) + ", due is " + before.get(source),
-                is.get(name).equals(before.get(source)));
-        }
+    /** What told and about tell of the one place is in the other place then; all else is as before. */
+    private static void taken(String call, Map<String, Integer> is, Map<String, Integer> before, String from,
+            String to) {
+        Map<String, Integer> due = new TreeMap<>();
         for (String name : before.keySet()) {
-            boolean kept = name.startsWith("sign") || name.startsWith(third) && !third.isEmpty();
-            Due.holds(call + ", " + name + " is there", !kept || is.containsKey(name));
+            String place = placeOf(name);
+            if (name.startsWith("sign") || !place.equals(to)) {
+                due.put(name, before.get(name));
+            }
+            if (!name.startsWith("sign") && place.equals(from)) {
+                due.put(to + name.substring(place.length()), before.get(name));
+            }
         }
-        Due.holds(call + " of all", tolds >= 63);
-        Due.is("signs of the book", is.get("signs"), BOOK_SIGNS);
+        same(call, is, due);
+    }
+
+    private static String placeOf(String name) {
+        return name.startsWith("image") ? name.substring(0, "image 0: ".length()) : "";
+    }
+
+    private static void same(String call, Map<String, Integer> is, Map<String, Integer> due) {
+        TreeSet<String> names = new TreeSet<>(due.keySet());
+        names.addAll(is.keySet());
+        for (String name : names) {
+            Due.holds(call + ", " + name + ": " + is.get(name) + ", due is " + due.get(name),
+                due.containsKey(name) && due.get(name).equals(is.get(name)));
+        }
     }
 }

@@ -8,6 +8,7 @@ public final class MatterEdgesTest {
         clear();
         leastPlaces();
         leastOfOne();
+        leastOfAllInAndAwake();
         leastLongest();
         leastOfSeveral();
         leastOrder();
@@ -90,6 +91,21 @@ public final class MatterEdgesTest {
         Due.part("promise 12: all IN and AWAKE, nothing half free");
         new Run("matter 0 9 0 = 0", "set 0 0 4", "least -1 = 14", "set 0 1 0", "least -1 = 14", "set 0 2 0",
             "least -1 = 14", "set 0 3 99", "least -1 = 14", "told 10 = 4");
+    }
+
+    private static void leastOfAllInAndAwake() {
+        Due.part("promise 12: all ONES IN and AWAKE, nothing half free, whatever they are now");
+        new Run("saved 5", "matter 0 5 0 = 0", "matter 1 5 1 = 1", "set {0 1} {1 2} 0", "least -1 = 10",
+            "set 1 1 1", "least -1 = 10", "set 0 1 1", "set 1 1 0", "set {0 1} 3 99", "least -1 = 10", "saved 4",
+            "least -1 = 11", "told {40 41} = 99", "told 21 = 0");
+        for (int one = 0; one < 6; one++) {
+            new Run("set " + one + " 0 7", "matter " + one + " 9 0 = 0", "least -1 = 11", "set " + one + " 1 0",
+                "least -1 = 11", "set " + one + " 2 0", "least -1 = 11", "set " + one + " 1 1", "least -1 = 11",
+                "set " + one + " 3 99", "least -1 = 11", "set " + one + " 3 1", "least -1 = 11");
+        }
+        Due.part("promise 13: likewise");
+        new Run("matter 0 4 0 = 0", "matter 5 3 1 = 1", "set {0 5} {1 2} 0", "set {0 5} 3 99", "dealt 4 -1 = 7",
+            "dealt 4 0 = 4", "dealt 4 5 = 0", "dealt 3 -1 = 8", "dealt 3 0 = 3", "told {20 35} = 0");
     }
 
     private static void leastLongest() {
