@@ -10,8 +10,8 @@ public final class AnyCallsTest {
     private static final int NONE = -6, UNKNOWN = -1, OUTSIDE = -2, STATE = -3, FULL = -4, NO = -5;
     private static final int RUNS = 60, LATER_CALLS = 3000;
     private static final int[] FAR = {Integer.MIN_VALUE, Integer.MIN_VALUE + 1, -65536, -1000, -100, -7, -2, -1, 6, 7,
-        8, 9, 10, 15, 16, 31, 32, 33, 40, 61, 63, 64, 99, 100, 126, 127, 128, 135, 136, 255, 256, 999, 1000, 16807, 65536,
-        1000000, Integer.MAX_VALUE - 1, Integer.MAX_VALUE};
+        8, 9, 10, 15, 16, 31, 32, 33, 40, 61, 63, 64, 99, 100, 126, 127, 128, 135, 136, 255, 256, 999, 1000, 16807,
+        65536, 1000000, Integer.MAX_VALUE - 1, Integer.MAX_VALUE};
     private static final String[] CALLS = {"set 3", "set 3", "law 2", "say 1", "say 1", "say 1", "say 1", "wipe 0",
         "fault 1", "sits 1", "sits 1", "sit 0", "matter 3", "matter 3", "matter 3", "matter 3", "matter 3", "matter 3",
         "about 2", "least 1", "least 1", "dealt 2", "dealt 2", "lend 3", "lend 3", "net 1", "gifts 0", "filled 2",
